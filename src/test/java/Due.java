@@ -1,3 +1,4 @@
+import java.util.Arrays;
 import java.util.function.LongSupplier;
 
 /** Compares answers with those that are due, prints the others, and ends the test. */
@@ -18,11 +19,17 @@ final class Due {
         Integer.MAX_VALUE};
 
     private int wrong = 0;
+    private String sentence = "";
+
+    /** The sentence of the document that the following calls look at; what is not as due is told with it. */
+    void sentence(String where, String quoted) {
+        sentence = where + " \"" + quoted + "\": ";
+    }
 
     void is(String call, long want, long got) {
         if (got != want) {
             wrong++;
-            System.out.println(call + " answered " + got + ", due is " + want);
+            System.out.println(sentence + call + " answered " + got + ", due is " + want);
         }
     }
 
@@ -41,7 +48,15 @@ final class Due {
             got = "threw " + e.getClass().getName();
         }
         wrong++;
-        System.out.println(call + " " + got + ", due is " + want.getName());
+        System.out.println(sentence + call + " " + got + ", due is " + want.getName());
+    }
+
+    /** Ints that are not 0 .. bound - 1: those beside the edges, and those far off. */
+    static int[] outside(int bound) {
+        int[] out = Arrays.copyOf(FAR, FAR.length + 2);
+        out[FAR.length] = bound;
+        out[FAR.length + 1] = bound + 1;
+        return out;
     }
 
     /** Ticks until the clock shows the time. */
@@ -68,6 +83,18 @@ final class Due {
             table.state(ADD, 0, 1, 0, 32);
         }
         table.tick();
+        return table;
+    }
+
+    /** Makes 150 rows: 4 a time up to time 36, one a key over all days, and at time 37 those of the keys 0 and 1. */
+    static TwoTimesTable with150Rows() {
+        TwoTimesTable table = new TwoTimesTable();
+        for (int time = 0; time <= 37; time++) {
+            tickTo(table, time);
+            for (int key = 0; key < (time == 37 ? 2 : 4); key++) {
+                table.state(PUT, key, time, 0, 32);
+            }
+        }
         return table;
     }
 
